@@ -48,7 +48,6 @@ public final class StepVersions {
 
     /** Creates a record with its version 0. */
     public StepVersions() {
-        Arrays.fill(proposed, 0);
         versions.add(NONE, NONE, proposed, state.limit);
     }
 
@@ -278,9 +277,7 @@ public final class StepVersions {
 
     /** Empties the text; answers the length that it had. */
     public int clearText() {
-        int previous = text.length;
-        text.length = 0;
-        return previous;
+        return text.empty();
     }
 
     // ---- history
@@ -574,9 +571,14 @@ public final class StepVersions {
         }
 
         int differing(int version, int other) {
+            if (!isNumber(version) || !isNumber(other)) {
+                return 0;
+            }
             int differing = 0;
+            int ofVersion = version * FIELDS;
+            int ofOther = other * FIELDS;
             for (int field = 0; field < FIELDS; field++) {
-                if (valueOf(version, field) != valueOf(other, field)) {
+                if (values[ofVersion + field] != values[ofOther + field]) {
                     differing++;
                 }
             }
@@ -601,7 +603,7 @@ public final class StepVersions {
             return base < 0 ? WHOLE_COST : costOfChanges(differing(version, base));
         }
 
-        private static int costOfChanges(int differing) {
+        static int costOfChanges(int differing) {
             return 1 + 2 * differing;
         }
 
@@ -701,8 +703,8 @@ public final class StepVersions {
             for (int base = 0; base < made; base++) {
                 boolean fits = isPresent(base) && canBeRead(base) && !isOnWay(version, base)
                         && stepsBy(base, height) <= limit;
-                int cost = costOfChanges(differing(version, base));
-                if (fits && cost < bestCost) {
+                int cost = fits ? costOfChanges(differing(version, base)) : WHOLE_COST;
+                if (cost < bestCost) {
                     best = base;
                     bestCost = cost;
                 }
@@ -901,8 +903,10 @@ public final class StepVersions {
             int best = NONE;
             int bestCost = WHOLE_COST;
             for (int base = 0; base < version && base < VERSIONS; base++) {
-                int cost = Versions.costOfChanges(versions.differing(version, base));
-                if (versions.isPresent(base) && steps[base] < limit && cost < bestCost) {
+                boolean fits = versions.isPresent(base) && steps[base] < limit;
+                int cost = fits
+                        ? Versions.costOfChanges(versions.differing(version, base)) : WHOLE_COST;
+                if (cost < bestCost) {
                     best = base;
                     bestCost = cost;
                 }
@@ -962,6 +966,12 @@ public final class StepVersions {
                 signs[length] = sign;
                 length++;
             }
+        }
+
+        int empty() {
+            int previous = length;
+            length = 0;
+            return previous;
         }
 
         /** Reads the edits of the text; answers its fault, or NONE if it has none. */

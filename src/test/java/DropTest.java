@@ -126,5 +126,17 @@ public final class DropTest {
         x.drop(2);
         Check.due("as stored", StepVersions.NONE, x.optimize());
         Check.due("hidden still", 2, x.count(2));
+        x = Check.chain("0=1");
+        x.storeWhole(1);
+        x.rebase(0, 1);
+        x.moveHead(0, 0);
+        Check.due("base of the version 0", 0, x.drop(1));
+        Check.due("optimize", 1000 + 15 - 12, x.optimize());
+        Check.due("the highest one is gone", 2, x.version(1, 0));
+        x = Check.chain("0=1,1=1,2=1,3=1,4=1,5=1");
+        x.rebase(1, 0);
+        x.drop(0);
+        Check.due("optimize", 1000 + 25 - 12, x.optimize());
+        Check.due("the version 0 is gone", 2, x.version(0, 0));
     }
 }

@@ -507,6 +507,11 @@ final class Model {
 
     // ---- what is told
 
+    /** A field of a version whatever becomes of it, by which fitting mends are found. */
+    int sealed(int v, int field) {
+        return v >= 0 && v < s.all.size() ? s.all.get(v).fields[field] : 0;
+    }
+
     int read(int v, int field) {
         if (!kept(v) || field < 0 || field > 11) {
             return -1;

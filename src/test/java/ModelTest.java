@@ -75,10 +75,7 @@ public final class ModelTest {
         if (pick(12) == 0) {
             row.deleteCharAt(pick(row.length()));
         }
-        due(0, 0, "clearText", model.clearText(), x.clearText());
-        for (int i = 0; i < row.length(); i++) {
-            due(0, 0, "type", model.type(row.charAt(i)), x.type(row.charAt(i)));
-        }
+        typeAll(row.toString());
         return 1;
     }
 
@@ -130,9 +127,32 @@ public final class ModelTest {
             answer(run, call, "spoil", model.spoil(v), x.spoil(v));
             return;
         }
-        for (int other = -1; other < 41; other++) {
-            answer(run, call, "mend", model.mend(v, other), x.mend(v, other));
-            answer(run, call, "mend", model.mend(other, w), x.mend(other, w));
+        int kind = pick(4);
+        if (kind > 0) {
+            int from = kind == 3 ? w : model.version(v, 1);
+            typeDifference(v, from);
+            answer(run, call, "mend", model.mend(v, from), x.mend(v, from));
+        } else {
+            answer(run, call, "mend", model.mend(v, w), x.mend(v, w));
+        }
+    }
+
+    /** Types the edits that lead from one version to another, if the text has room for them. */
+    private void typeDifference(int version, int from) {
+        StringBuilder row = new StringBuilder();
+        for (int field = 0; field < 12; field++) {
+            int value = model.sealed(version, field);
+            if (value != model.sealed(from, field)) {
+                row.append(row.length() > 0 ? "," : "").append(field).append('=').append(value);
+            }
+        }
+        typeAll(row.length() == 0 ? "0=" + model.sealed(version, 0) : row.toString());
+    }
+
+    private void typeAll(String row) {
+        due(0, 0, "clearText", model.clearText(), x.clearText());
+        for (int i = 0; i < row.length(); i++) {
+            due(0, 0, "type", model.type(row.charAt(i)), x.type(row.charAt(i)));
         }
     }
 

@@ -82,6 +82,8 @@ public final class SpoiledTest {
         Check.due("same before fault", StepVersions.BAD_VALUE, x.mend(2, 2));
         Check.due("fault before spoiled", -104, x.mend(2, 3));
         Check.due("fault", -104, x.mend(2, 1));
+        Check.text(x, "");
+        Check.due("empty text", -100, x.mend(2, 1));
         Check.text(x, "0=3");
         Check.due("spoiled before not possible", StepVersions.SPOILED, x.mend(2, 3));
         Check.due("other fields", StepVersions.NOT_POSSIBLE, x.mend(2, 1));

@@ -97,6 +97,14 @@ public final class StoringTest {
         x.setLimit(5);
         Check.due("with another limit", 5, x.rebase(6, 4));
         Check.due("five steps", 5, x.count(8));
+        x = Check.chain("0=1", "0=2");
+        x.storeWhole(1);
+        x.rebase(0, 1);
+        Check.due("the version 0 is a dependant", 2, x.version(1, 6));
+        x.storeWhole(2);
+        Check.due("and has the most steps", 1, x.count(8));
+        x.setLimit(1);
+        Check.due("it would be too far", StepVersions.TOO_FAR, x.rebase(1, 2));
     }
 
     private static void limits() {
