@@ -815,7 +815,7 @@ public final class StepVersions {
         // -- changing
 
         int add(int parent, int secondParent, int[] row, int limit) {
-            if (made >= VERSIONS || row.length < FIELDS) {
+            if (made < 0 || made >= VERSIONS || row.length < FIELDS) {
                 return FULL;
             }
             boolean byParent = isPresent(parent) && stepsBy(parent, 0) <= limit
@@ -931,6 +931,9 @@ public final class StepVersions {
         int size = 0;
 
         void push(State state) {
+            if (next < 0 || next >= STATES) {
+                return;
+            }
             // A row is made when it is first needed, and used again ever after.
             State row = rows[next];
             if (row == null) {
@@ -944,8 +947,11 @@ public final class StepVersions {
 
         void popInto(State state) {
             int latest = (next + STATES - 1) % STATES;
+            if (size <= 0 || latest < 0 || latest >= STATES) {
+                return;
+            }
             State row = rows[latest];
-            if (size == 0 || row == null) {
+            if (row == null) {
                 return;
             }
             state.copyFrom(row);
@@ -962,7 +968,7 @@ public final class StepVersions {
         int length = 0;
 
         void append(char sign) {
-            if (length < TEXT_ROOM) {
+            if (length >= 0 && length < TEXT_ROOM) {
                 signs[length] = sign;
                 length++;
             }

@@ -3,7 +3,6 @@ public final class HistoryTest {
     public static void main(String[] args) {
         undoes();
         fourStates();
-        undoRestoresAll();
         errorsMakeNoState();
         snapshots();
         Check.end();
@@ -40,55 +39,6 @@ public final class HistoryTest {
         Check.due("mixed", 1, x.undo());
         Check.due("mixed", 0, x.undo());
         Check.due("head", 2, x.head(0));
-    }
-
-    private static void undoRestoresAll() {
-        StepVersions x = Check.chain("0=1,1=1", "0=2", "0=0,1=0,5=5");
-        x.fork(1);
-        Check.commit(x, 1, "0=3,2=2");
-        x.drop(2);
-        String before = Check.told(x);
-        x.keep();
-        for (int act = 0; act < 12; act++) {
-            Check.due("act " + act, 1, act(x, act) >= 0 ? 1 : 0);
-            Check.due("act " + act + " makes a state", 4, x.count(12));
-            for (int undo = act == 11 ? 3 : 1; undo > 0; undo--) {
-                Check.due("undo of act " + act, 1, x.undo() >= 0 ? 1 : 0);
-            }
-            Check.same("undo of act " + act, before, Check.told(x));
-        }
-    }
-
-    private static int act(StepVersions x, int act) {
-        switch (act) {
-            case 0:
-                return Check.commit(x, 0, "6=6");
-            case 1:
-                return x.fork(0);
-            case 2:
-                return x.moveHead(0, 0);
-            case 3:
-                return x.merge(0, 1);
-            case 4:
-                return x.drop(0);
-            case 5:
-                return x.storeWhole(3);
-            case 6:
-                return x.rebase(3, 0);
-            case 7:
-                return x.setLimit(7);
-            case 8:
-                return x.optimize();
-            case 9:
-                return x.spoil(1);
-            case 10:
-                return x.restore();
-            default:
-                x.storeWhole(3);
-                x.spoil(1);
-                Check.text(x, "0=1,1=1,5=0");
-                return x.mend(1, 3);
-        }
     }
 
     private static void errorsMakeNoState() {
