@@ -48,7 +48,7 @@ public final class StepVersions {
 
     /** Creates a record with its version 0. */
     public StepVersions() {
-        versions.add(NONE, NONE, proposed, state.limit);
+        versions.add(NONE, NONE, new int[FIELDS], FIRST_LIMIT);
     }
 
     // ---- heads, committing, merging
